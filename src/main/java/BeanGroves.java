@@ -14,7 +14,7 @@ public final class BeanGroves {
   private static final int MOST_LEAST = 6;
   private static final int MOST_PARTS = 5;
 
-  /** A leaf is never grown without a bean, so there are 20 leaves and 19 forks at the most. */
+  /** No leaf is grown without a bean, so there are 20 leaves and 19 forks at the most. */
   private static final int MOST_NODES = 2 * MOST_BEANS - 1;
 
   /**
@@ -723,9 +723,9 @@ public final class BeanGroves {
       int place = 0;
       int high = highPartAt(0);
       for (int level = 0; level < MOST_DEPTH && high >= 0; level++) {
-        int measure = measureAt(place);
+        int measure = measureOfCut(cuts[place]);
         int number = measure == 0 ? a : measure == 1 ? b : c;
-        place = number <= numberAt(place) ? place + 1 : high;
+        place = number <= numberOfCut(cuts[place]) ? place + 1 : high;
         high = highPartAt(place);
       }
       return sorts[place];

@@ -16,6 +16,7 @@ public final class PromisesTest {
     plant();
     plantLeavingOut();
     growingByTies();
+    largestTree();
     treesStay();
     fell();
     pruneTurnsForks();
@@ -59,6 +60,17 @@ public final class PromisesTest {
   /** Grows to a fork at 20 (sort 0): a fork at 10 (0): a leaf (2), a leaf (0); and a leaf (1). */
   private static BeanGroves lowFork() {
     return along(new int[] {10, 18, 19, 20, 29, 30}, new int[] {2, 0, 0, 0, 1, 1});
+  }
+
+  /** Grows to a fork by measure 1 at 5: a fork by measure 2 at 30 with leaves 2 and 1; a leaf 0. */
+  private static BeanGroves byOtherMeasures() {
+    BeanGroves x = new BeanGroves();
+    x.bean(0, 5, 30, 2);
+    x.bean(0, 5, 40, 1);
+    x.bean(0, 45, 30, 0);
+    x.bean(0, 45, 40, 0);
+    x.plant(1, -1);
+    return x;
   }
 
   private static BeanGroves full() {
@@ -287,6 +299,40 @@ public final class PromisesTest {
     row(edge, 0, 1, 0, -1, 49, -1, -1);
   }
 
+  /** Twenty beans of which a tree of depth 5 has a leaf for each: none can have more nodes. */
+  private static void largestTree() {
+    int[][] beans = {
+      {20, 38, 43, 0}, {25, 13, 7, 2}, {28, 15, 47, 1}, {25, 11, 7, 1}, {44, 49, 47, 2},
+      {27, 2, 27, 2}, {44, 43, 23, 1}, {20, 20, 24, 2}, {20, 7, 33, 1}, {42, 33, 22, 0},
+      {23, 15, 3, 0}, {42, 27, 14, 2}, {41, 19, 11, 0}, {14, 26, 19, 2}, {20, 6, 25, 0},
+      {4, 40, 50, 0}, {47, 40, 20, 2}, {0, 30, 50, 1}, {16, 17, 2, 1}, {14, 42, 22, 1},
+    };
+    BeanGroves x = new BeanGroves();
+    Model model = new Model();
+    for (int[] b : beans) {
+      x.bean(b[0], b[1], b[2], b[3]);
+      model.bean(b[0], b[1], b[2], b[3]);
+    }
+    x.setDepth(5);
+    model.setDepth(5);
+    for (int tree = 0; tree < 5; tree++) {
+      x.plant(1, -1);
+      model.plant(1, -1);
+    }
+    Due.is("nodes of the largest tree", x.about(4, 0), 39);
+    Due.is("leaves of the largest tree", x.about(4, 1), 20);
+    Due.is("depth of the largest tree", x.about(4, 2), 5);
+    Due.is("right of the largest tree", x.about(4, 3), 20);
+    Due.is("nodes that it would have", x.would(5, 1, 0), 39);
+    Due.is("digest with five of them", x.digest(), model.digest());
+    for (int bean = 0; bean < 20; bean += 2) {
+      x.check(bean, true);
+      model.check(bean, true);
+    }
+    Due.is("prune of the largest tree", x.prune(3), model.prune(3));
+    Due.is("digest behind it", x.digest(), model.digest());
+  }
+
   private static void treesStay() {
     BeanGroves x = highFork();
     x.plant(1, -1);
@@ -475,12 +521,7 @@ public final class PromisesTest {
     for (int[] row : due) {
       Due.is("says(0, " + row[0] + ", 50, 0)", x.says(0, row[0], 50, 0), row[1]);
     }
-    BeanGroves three = new BeanGroves();
-    three.bean(0, 5, 30, 2);
-    three.bean(0, 5, 40, 1);
-    three.bean(0, 45, 30, 0);
-    three.bean(0, 45, 40, 0);
-    three.plant(1, -1);
+    BeanGroves three = byOtherMeasures();
     Due.is("says by measures 1 and 2: low, low", three.says(0, 50, 5, 30), 2);
     Due.is("says by measures 1 and 2: low, high", three.says(0, 50, 5, 31), 1);
     Due.is("says by measures 1 and 2: high", three.says(0, 50, 6, 0), 0);
@@ -541,6 +582,10 @@ public final class PromisesTest {
     for (int what = 0; what <= 6; what++) {
       Due.is("count(" + what + ")", x.count(what), due[what]);
     }
+    BeanGroves other = byOtherMeasures();
+    Due.is("count(3) by measures 1 and 2", other.count(3), 4);
+    other.check(1, true);
+    Due.is("count(4) by measures 1 and 2", other.count(4), 1);
     for (int bad : new int[] {-1, 7, MIN, MAX}) {
       Due.thrown("count(" + bad + ")", INDEX, () -> x.count(bad));
     }
