@@ -1,3 +1,8 @@
+import java.lang.reflect.InvocationTargetException;
+import java.lang.reflect.Method;
+import java.util.Map;
+import java.util.TreeMap;
+
 /** Counts answers that are not as due, and prints them. */
 final class Due {
   interface Call {
@@ -6,6 +11,9 @@ final class Due {
 
   private static int asked = 0;
   private static int wrong = 0;
+
+  /** The test that runs, if it is one of those that have a name of their own. */
+  private static String test = "";
 
   private Due() {}
 
@@ -38,11 +46,39 @@ final class Due {
 
   static void fail(String what) {
     wrong++;
-    System.out.println(what);
+    System.out.println(test + what);
   }
 
   static int wrong() {
     return wrong;
+  }
+
+  /** The tests of a class, by their names: the methods whose names begin with "promise". */
+  static Map<String, Method> testsOf(Class<?> of) {
+    Map<String, Method> tests = new TreeMap<>();
+    for (Method method : of.getDeclaredMethods()) {
+      if (method.getName().startsWith("promise")) {
+        tests.put(method.getName(), method);
+      }
+    }
+    return tests;
+  }
+
+  /** One that ends by an exception, or that looks at nothing, fails. */
+  static void run(String name, Method made) {
+    test = name + ": ";
+    int before = asked;
+    try {
+      made.invoke(null);
+    } catch (InvocationTargetException e) {
+      fail("ended by " + e.getCause());
+    } catch (ReflectiveOperationException e) {
+      fail("cannot be called: " + e);
+    }
+    if (asked == before) {
+      fail("looked at nothing");
+    }
+    test = "";
   }
 
   static void end() {

@@ -1,10 +1,10 @@
 /** For each promise of the document what it asks, worked out by hand. */
 public final class PromisesTest {
-  private static final Class<?> ILLEGAL = IllegalArgumentException.class;
-  private static final Class<?> INDEX = IndexOutOfBoundsException.class;
-  private static final Class<?> STATE = IllegalStateException.class;
-  private static final int MIN = Integer.MIN_VALUE;
-  private static final int MAX = Integer.MAX_VALUE;
+  private static final Class<?> ILLEGAL = Sample.ILLEGAL;
+  private static final Class<?> INDEX = Sample.INDEX;
+  private static final Class<?> STATE = Sample.STATE;
+  private static final int MIN = Sample.MIN;
+  private static final int MAX = Sample.MAX;
 
   public static void main(String[] args) {
     newObject();
@@ -38,63 +38,6 @@ public final class PromisesTest {
     Due.end();
   }
 
-  /** Beans with their measure 0 in a row, each of its sort; the other measures are 0. */
-  private static BeanGroves along(int[] measures, int[] sorts) {
-    BeanGroves x = new BeanGroves();
-    for (int bean = 0; bean < measures.length; bean++) {
-      x.bean(measures[bean], 0, 0, sorts[bean]);
-    }
-    return x;
-  }
-
-  /** Pure 25/7; the cut at 1 gains 3/7, that at 3 gains 2/21 and so does that at 4. */
-  private static BeanGroves ladder() {
-    return along(new int[] {1, 2, 3, 4, 5, 6, 7}, new int[] {0, 1, 0, 1, 0, 1, 0});
-  }
-
-  /** Grows to a fork at 11 (sort 0): a leaf (1), and a fork at 22 (0): a leaf (0), a leaf (2). */
-  private static BeanGroves highFork() {
-    return along(new int[] {10, 11, 20, 21, 22, 30}, new int[] {1, 1, 0, 0, 0, 2});
-  }
-
-  /** Grows to a fork at 20 (sort 0): a fork at 10 (0): a leaf (2), a leaf (0); and a leaf (1). */
-  private static BeanGroves lowFork() {
-    return along(new int[] {10, 18, 19, 20, 29, 30}, new int[] {2, 0, 0, 0, 1, 1});
-  }
-
-  /** Grows to a fork by measure 1 at 5: a fork by measure 2 at 30 with leaves 2 and 1; a leaf 0. */
-  private static BeanGroves byOtherMeasures() {
-    BeanGroves x = new BeanGroves();
-    x.bean(0, 5, 30, 2);
-    x.bean(0, 5, 40, 1);
-    x.bean(0, 45, 30, 0);
-    x.bean(0, 45, 40, 0);
-    x.plant(1, -1);
-    return x;
-  }
-
-  private static BeanGroves full() {
-    BeanGroves x = new BeanGroves();
-    for (int bean = 0; bean < 20; bean++) {
-      Due.is("bean " + bean, x.bean(bean, 2 * bean, 50 - bean, bean % 3), bean);
-    }
-    return x;
-  }
-
-  private static int addCheck(BeanGroves x, int a, int sort) {
-    int bean = x.bean(a, 0, 0, sort);
-    x.check(bean, true);
-    return bean;
-  }
-
-  private static void row(BeanGroves x, int tree, int what, int... due) {
-    Due.is("about(" + tree + ", 0)", x.about(tree, 0), due.length);
-    for (int place = 0; place < Math.min(due.length, x.about(tree, 0)); place++) {
-      String call = "node(" + tree + ", " + place + ", " + what + ")";
-      Due.is(call, x.node(tree, place, what), due[place]);
-    }
-  }
-
   private static void newObject() {
     BeanGroves x = new BeanGroves();
     int[] due = {0, 0, 0, 0, 0, 3, 1};
@@ -122,7 +65,7 @@ public final class PromisesTest {
       Due.thrown("bean of sort " + bad, ILLEGAL, () -> x.bean(0, 0, 0, bad));
     }
     Due.is("beans behind wrong ones", x.count(0), 3);
-    BeanGroves full = full();
+    BeanGroves full = Sample.full();
     long before = full.digest();
     Due.thrown("the bean 20", STATE, () -> full.bean(0, 0, 0, 0));
     Due.thrown("the bean 20 with a wrong measure", ILLEGAL, () -> full.bean(0, 0, 51, 0));
@@ -131,7 +74,7 @@ public final class PromisesTest {
   }
 
   private static void setSort() {
-    BeanGroves x = highFork();
+    BeanGroves x = Sample.highFork();
     Due.is("setSort(0, 2)", x.setSort(0, 2), 1);
     Due.is("setSort(0, 0)", x.setSort(0, 0), 2);
     Due.is("setSort(0, 0) again", x.setSort(0, 0), 0);
@@ -150,7 +93,7 @@ public final class PromisesTest {
   }
 
   private static void check() {
-    BeanGroves x = highFork();
+    BeanGroves x = Sample.highFork();
     Due.isTrue("check(5, true)", !x.check(5, true));
     Due.isTrue("check(5, true) again", x.check(5, true));
     Due.is("told(5, 4)", x.told(5, 4), 1);
@@ -168,7 +111,7 @@ public final class PromisesTest {
   }
 
   private static void setDepth() {
-    BeanGroves x = ladder();
+    BeanGroves x = Sample.ladder();
     int before = 3;
     for (int most = 1; most <= 5; most++) {
       Due.is("setDepth(" + most + ")", x.setDepth(most), before);
@@ -184,7 +127,7 @@ public final class PromisesTest {
   }
 
   private static void setLeast() {
-    BeanGroves x = ladder();
+    BeanGroves x = Sample.ladder();
     int before = 1;
     int[] cutAt = {1, 3, 3, -1, -1, -1};
     for (int many = 1; many <= 6; many++) {
@@ -204,17 +147,17 @@ public final class PromisesTest {
     Due.is("best(0) with 6 on either side", twelve.best(0), 2);
     Due.is("best(1) with 6 on either side", twelve.best(1), 5);
     twelve.plant(1, -1);
-    row(twelve, 0, 3, 12, 6, 6);
+    Sample.row(twelve, 0, 3, 12, 6, 6);
   }
 
   private static void plant() {
-    BeanGroves x = highFork();
+    BeanGroves x = Sample.highFork();
     Due.is("plant(1, -1)", x.plant(1, -1), 0);
-    row(x, 0, 0, 0, -1, 0, -1, -1);
-    row(x, 0, 1, 11, -1, 22, -1, -1);
-    row(x, 0, 2, 0, 1, 0, 0, 2);
-    row(x, 0, 3, 6, 2, 4, 3, 1);
-    row(x, 0, 4, 0, 1, 1, 2, 2);
+    Sample.row(x, 0, 0, 0, -1, 0, -1, -1);
+    Sample.row(x, 0, 1, 11, -1, 22, -1, -1);
+    Sample.row(x, 0, 2, 0, 1, 0, 0, 2);
+    Sample.row(x, 0, 3, 6, 2, 4, 3, 1);
+    Sample.row(x, 0, 4, 0, 1, 1, 2, 2);
     for (int bad : new int[] {0, 6, -1, MIN, MAX}) {
       Due.thrown("plant(" + bad + ", 0)", ILLEGAL, () -> x.plant(bad, 0));
       Due.thrown("plant(" + bad + ", -1)", ILLEGAL, () -> x.plant(bad, -1));
@@ -234,7 +177,7 @@ public final class PromisesTest {
     Due.thrown("the tree 5 of wrong parts", ILLEGAL, () -> x.plant(6, -1));
     Due.thrown("the tree 5 with a wrong rest", ILLEGAL, () -> x.plant(2, 2));
     Due.is("digest behind these", x.digest(), before);
-    BeanGroves checks = highFork();
+    BeanGroves checks = Sample.highFork();
     for (int bean = 0; bean < 6; bean++) {
       checks.check(bean, true);
     }
@@ -242,7 +185,7 @@ public final class PromisesTest {
   }
 
   private static void plantLeavingOut() {
-    BeanGroves x = full();
+    BeanGroves x = Sample.full();
     int[][] due = {{20}, {10, 10}, {13, 13, 14}, {15, 15, 15, 15}, {16, 16, 16, 16, 16}};
     for (int parts = 1; parts <= 5; parts++) {
       for (int left = parts == 1 ? -1 : 0; left < parts; left++) {
@@ -258,7 +201,7 @@ public final class PromisesTest {
       Due.is("grown with " + parts + ", -1", x.node(0, 0, 3), 20);
       x.fell(0);
     }
-    BeanGroves two = along(new int[] {4, 6}, new int[] {1, 2});
+    BeanGroves two = Sample.along(new int[] {4, 6}, new int[] {1, 2});
     two.plant(2, 0);
     Due.is("the sort without the bean 0", two.node(0, 0, 2), 2);
     two.plant(2, 1);
@@ -274,42 +217,32 @@ public final class PromisesTest {
     x.bean(9, 3, 3, 2);
     x.bean(9, 4, 4, 1);
     x.plant(1, -1);
-    row(x, 0, 0, 1, -1, -1);
-    row(x, 0, 1, 3, -1, -1);
-    row(x, 0, 2, 1, 2, 1);
+    Sample.row(x, 0, 0, 1, -1, -1);
+    Sample.row(x, 0, 1, 3, -1, -1);
+    Sample.row(x, 0, 2, 1, 2, 1);
     BeanGroves same = new BeanGroves();
     same.bean(9, 9, 9, 2);
     same.bean(9, 9, 9, 1);
     same.plant(1, -1);
-    row(same, 0, 2, 1);
-    BeanGroves cross = new BeanGroves();
-    cross.bean(10, 10, 0, 0);
-    cross.bean(10, 40, 0, 1);
-    cross.bean(40, 10, 0, 1);
-    cross.bean(40, 40, 0, 0);
+    Sample.row(same, 0, 2, 1);
+    BeanGroves cross = Sample.cross();
     cross.plant(1, -1);
-    row(cross, 0, 2, 0);
-    BeanGroves ladder = ladder();
+    Sample.row(cross, 0, 2, 0);
+    BeanGroves ladder = Sample.ladder();
     ladder.setLeast(3);
     ladder.plant(1, -1);
-    row(ladder, 0, 1, 3, -1, -1);
-    row(ladder, 0, 3, 7, 3, 4);
-    BeanGroves edge = along(new int[] {49, 50, 0}, new int[] {0, 1, 1});
+    Sample.row(ladder, 0, 1, 3, -1, -1);
+    Sample.row(ladder, 0, 3, 7, 3, 4);
+    BeanGroves edge = Sample.along(new int[] {49, 50, 0}, new int[] {0, 1, 1});
     edge.plant(1, -1);
-    row(edge, 0, 1, 0, -1, 49, -1, -1);
+    Sample.row(edge, 0, 1, 0, -1, 49, -1, -1);
   }
 
   /** Twenty beans of which a tree of depth 5 has a leaf for each: none can have more nodes. */
   private static void largestTree() {
-    int[][] beans = {
-      {20, 38, 43, 0}, {25, 13, 7, 2}, {28, 15, 47, 1}, {25, 11, 7, 1}, {44, 49, 47, 2},
-      {27, 2, 27, 2}, {44, 43, 23, 1}, {20, 20, 24, 2}, {20, 7, 33, 1}, {42, 33, 22, 0},
-      {23, 15, 3, 0}, {42, 27, 14, 2}, {41, 19, 11, 0}, {14, 26, 19, 2}, {20, 6, 25, 0},
-      {4, 40, 50, 0}, {47, 40, 20, 2}, {0, 30, 50, 1}, {16, 17, 2, 1}, {14, 42, 22, 1},
-    };
     BeanGroves x = new BeanGroves();
     Model model = new Model();
-    for (int[] b : beans) {
+    for (int[] b : Sample.OF_LARGEST) {
       x.bean(b[0], b[1], b[2], b[3]);
       model.bean(b[0], b[1], b[2], b[3]);
     }
@@ -334,7 +267,7 @@ public final class PromisesTest {
   }
 
   private static void treesStay() {
-    BeanGroves x = highFork();
+    BeanGroves x = Sample.highFork();
     x.plant(1, -1);
     for (int bean = 0; bean < 6; bean++) {
       x.setSort(bean, 2);
@@ -343,13 +276,13 @@ public final class PromisesTest {
     x.bean(15, 15, 15, 1);
     x.setDepth(1);
     x.setLeast(6);
-    row(x, 0, 1, 11, -1, 22, -1, -1);
-    row(x, 0, 2, 0, 1, 0, 0, 2);
-    row(x, 0, 3, 6, 2, 4, 3, 1);
+    Sample.row(x, 0, 1, 11, -1, 22, -1, -1);
+    Sample.row(x, 0, 2, 0, 1, 0, 0, 2);
+    Sample.row(x, 0, 3, 6, 2, 4, 3, 1);
   }
 
   private static void fell() {
-    BeanGroves x = full();
+    BeanGroves x = Sample.full();
     for (int tree = 0; tree < 5; tree++) {
       x.plant(5, tree);
     }
@@ -376,88 +309,88 @@ public final class PromisesTest {
   }
 
   private static void pruneTurnsForks() {
-    BeanGroves x = lowFork();
+    BeanGroves x = Sample.lowFork();
     x.plant(1, -1);
-    row(x, 0, 6, 4, 3, -1, -1, -1);
-    addCheck(x, 35, 1);
+    Sample.row(x, 0, 6, 4, 3, -1, -1, -1);
+    Sample.addCheck(x, 35, 1);
     Due.is("prune where no check comes to the low fork", x.prune(0), 1);
-    row(x, 0, 0, 0, -1, -1);
-    row(x, 0, 1, 20, -1, -1);
-    row(x, 0, 2, 0, 0, 1);
-    row(x, 0, 3, 6, 4, 2);
-    row(x, 0, 4, 0, 1, 1);
-    row(x, 0, 5, 1, -1, -1);
-    row(x, 0, 6, 2, -1, -1);
+    Sample.row(x, 0, 0, 0, -1, -1);
+    Sample.row(x, 0, 1, 20, -1, -1);
+    Sample.row(x, 0, 2, 0, 0, 1);
+    Sample.row(x, 0, 3, 6, 4, 2);
+    Sample.row(x, 0, 4, 0, 1, 1);
+    Sample.row(x, 0, 5, 1, -1, -1);
+    Sample.row(x, 0, 6, 2, -1, -1);
     Due.is("prune again", x.prune(0), 0);
     Due.is("says(0, 5, 0, 0)", x.says(0, 5, 0, 0), 0);
-    BeanGroves high = highFork();
+    BeanGroves high = Sample.highFork();
     high.plant(1, -1);
     high.plant(1, -1);
-    addCheck(high, 5, 1);
+    Sample.addCheck(high, 5, 1);
     Due.is("prune where no check comes to the high fork", high.prune(1), 1);
-    row(high, 1, 2, 0, 1, 0);
-    row(high, 1, 3, 6, 2, 4);
-    row(high, 0, 2, 0, 1, 0, 0, 2);
+    Sample.row(high, 1, 2, 0, 1, 0);
+    Sample.row(high, 1, 3, 6, 2, 4);
+    Sample.row(high, 0, 2, 0, 1, 0, 0, 2);
     for (int bad : new int[] {-1, 2, MIN, MAX}) {
       Due.thrown("prune(" + bad + ")", INDEX, () -> high.prune(bad));
     }
-    BeanGroves leaf = along(new int[] {7}, new int[] {1});
+    BeanGroves leaf = Sample.along(new int[] {7}, new int[] {1});
     leaf.plant(1, -1);
-    addCheck(leaf, 7, 2);
+    Sample.addCheck(leaf, 7, 2);
     Due.is("prune of a leaf", leaf.prune(0), 0);
-    row(leaf, 0, 2, 1);
+    Sample.row(leaf, 0, 2, 1);
   }
 
   private static void pruneCountsForks() {
-    BeanGroves none = ladder();
+    BeanGroves none = Sample.ladder();
     none.setDepth(5);
     none.plant(1, -1);
     Due.is("prune without checks turns every fork in its turn", none.prune(0), 5);
-    row(none, 0, 2, 0);
-    BeanGroves vanish = highFork();
+    Sample.row(none, 0, 2, 0);
+    BeanGroves vanish = Sample.highFork();
     vanish.plant(1, -1);
-    addCheck(vanish, 5, 0);
-    addCheck(vanish, 6, 0);
-    addCheck(vanish, 40, 2);
+    Sample.addCheck(vanish, 5, 0);
+    Sample.addCheck(vanish, 6, 0);
+    Sample.addCheck(vanish, 40, 2);
     Due.is("prune where a fork only vanishes", vanish.prune(0), 1);
-    row(vanish, 0, 2, 0);
-    BeanGroves even = highFork();
+    Sample.row(vanish, 0, 2, 0);
+    BeanGroves even = Sample.highFork();
     even.plant(1, -1);
-    addCheck(even, 5, 0);
-    addCheck(even, 40, 2);
+    Sample.addCheck(even, 5, 0);
+    Sample.addCheck(even, 40, 2);
     Due.is("prune where the parts are as good as the node", even.prune(0), 1);
-    row(even, 0, 3, 6);
-    BeanGroves better = highFork();
+    Sample.row(even, 0, 3, 6);
+    BeanGroves better = Sample.highFork();
     better.plant(1, -1);
-    addCheck(better, 10, 1);
-    addCheck(better, 40, 2);
+    Sample.addCheck(better, 10, 1);
+    Sample.addCheck(better, 40, 2);
     Due.is("prune where the parts are better", better.prune(0), 0);
-    row(better, 0, 2, 0, 1, 0, 0, 2);
+    Sample.row(better, 0, 2, 0, 1, 0, 0, 2);
   }
 
   private static void pruneBySortsOfNow() {
-    BeanGroves x = highFork();
+    BeanGroves x = Sample.highFork();
     x.plant(1, -1);
-    int late = addCheck(x, 40, 0);
-    int early = addCheck(x, 5, 1);
+    int late = Sample.addCheck(x, 40, 0);
+    int early = Sample.addCheck(x, 5, 1);
     x.setSort(late, 2);
     Due.is("prune by a sort set later", x.prune(0), 0);
     x.check(late, false);
     Due.is("prune without the check that went", x.prune(0), 1);
-    row(x, 0, 2, 0, 1, 0);
+    Sample.row(x, 0, 2, 0, 1, 0);
     x.setSort(early, 0);
     Due.is("prune by its sort of now", x.prune(0), 1);
-    row(x, 0, 3, 6);
+    Sample.row(x, 0, 3, 6);
   }
 
   private static void node() {
-    BeanGroves x = highFork();
+    BeanGroves x = Sample.highFork();
     x.plant(1, -1);
     x.setDepth(1);
     x.plant(1, -1);
-    row(x, 0, 5, 1, -1, 3, -1, -1);
-    row(x, 0, 6, 2, -1, 4, -1, -1);
-    row(x, 1, 4, 0, 1, 1);
+    Sample.row(x, 0, 5, 1, -1, 3, -1, -1);
+    Sample.row(x, 0, 6, 2, -1, 4, -1, -1);
+    Sample.row(x, 1, 4, 0, 1, 1);
     for (int bad : new int[] {-1, 2, MIN, MAX}) {
       Due.thrown("node of tree " + bad, INDEX, () -> x.node(bad, 0, 0));
     }
@@ -471,7 +404,7 @@ public final class PromisesTest {
   }
 
   private static void about() {
-    BeanGroves x = highFork();
+    BeanGroves x = Sample.highFork();
     x.plant(2, -1);
     x.plant(3, 2);
     int[] due = {5, 3, 2, 6, 0, 2, -1};
@@ -515,13 +448,13 @@ public final class PromisesTest {
   }
 
   private static void says() {
-    BeanGroves x = highFork();
+    BeanGroves x = Sample.highFork();
     x.plant(1, -1);
     int[][] due = {{0, 1}, {11, 1}, {12, 0}, {22, 0}, {23, 2}, {50, 2}};
     for (int[] row : due) {
       Due.is("says(0, " + row[0] + ", 50, 0)", x.says(0, row[0], 50, 0), row[1]);
     }
-    BeanGroves three = byOtherMeasures();
+    BeanGroves three = Sample.byOtherMeasures();
     Due.is("says by measures 1 and 2: low, low", three.says(0, 50, 5, 30), 2);
     Due.is("says by measures 1 and 2: low, high", three.says(0, 50, 5, 31), 1);
     Due.is("says by measures 1 and 2: high", three.says(0, 50, 6, 0), 0);
@@ -536,26 +469,14 @@ public final class PromisesTest {
     }
   }
 
-  /** Trees of one bean each say its sort. */
-  private static BeanGroves grove(int... sorts) {
-    BeanGroves x = along(new int[] {1, 2, 3}, new int[] {0, 1, 2});
-    for (int sort : sorts) {
-      for (int bean = 0; bean < 3; bean++) {
-        x.check(bean, bean != sort);
-      }
-      x.plant(1, -1);
-    }
-    return x;
-  }
-
   private static void vote() {
     Due.is("vote without trees", new BeanGroves().vote(0, 0, 0), -1);
-    Due.is("vote of 2", grove(2).vote(50, 50, 50), 2);
-    Due.is("vote of 2 1", grove(2, 1).vote(0, 0, 0), 1);
-    Due.is("vote of 2 1 0", grove(2, 1, 0).vote(0, 0, 0), 0);
-    Due.is("vote of 0 2 1 2", grove(0, 2, 1, 2).vote(0, 0, 0), 2);
-    Due.is("vote of 2 1 2 1 0", grove(2, 1, 2, 1, 0).vote(0, 0, 0), 1);
-    BeanGroves felled = grove(2, 1);
+    Due.is("vote of 2", Sample.grove(2).vote(50, 50, 50), 2);
+    Due.is("vote of 2 1", Sample.grove(2, 1).vote(0, 0, 0), 1);
+    Due.is("vote of 2 1 0", Sample.grove(2, 1, 0).vote(0, 0, 0), 0);
+    Due.is("vote of 0 2 1 2", Sample.grove(0, 2, 1, 2).vote(0, 0, 0), 2);
+    Due.is("vote of 2 1 2 1 0", Sample.grove(2, 1, 2, 1, 0).vote(0, 0, 0), 1);
+    BeanGroves felled = Sample.grove(2, 1);
     felled.fell(1);
     Due.is("vote behind a felled one", felled.vote(0, 0, 0), 2);
     felled.fell(0);
@@ -568,10 +489,10 @@ public final class PromisesTest {
   }
 
   private static void count() {
-    BeanGroves x = highFork();
-    addCheck(x, 11, 1);
-    addCheck(x, 12, 1);
-    addCheck(x, 50, 2);
+    BeanGroves x = Sample.highFork();
+    Sample.addCheck(x, 11, 1);
+    Sample.addCheck(x, 12, 1);
+    Sample.addCheck(x, 50, 2);
     Due.is("count(3) without trees", x.count(3), 0);
     Due.is("count(4) without trees", x.count(4), 0);
     x.plant(1, -1);
@@ -582,7 +503,7 @@ public final class PromisesTest {
     for (int what = 0; what <= 6; what++) {
       Due.is("count(" + what + ")", x.count(what), due[what]);
     }
-    BeanGroves other = byOtherMeasures();
+    BeanGroves other = Sample.byOtherMeasures();
     Due.is("count(3) by measures 1 and 2", other.count(3), 4);
     other.check(1, true);
     Due.is("count(4) by measures 1 and 2", other.count(4), 1);
@@ -600,7 +521,7 @@ public final class PromisesTest {
     BeanGroves empty = new BeanGroves();
     fraction(empty, 0, 0, 0, 1);
     fraction(empty, 2, 50, 0, 1);
-    BeanGroves x = ladder();
+    BeanGroves x = Sample.ladder();
     fraction(x, 0, 0, 0, 1);
     fraction(x, 0, 1, 3, 7);
     fraction(x, 0, 2, 1, 35);
@@ -612,7 +533,7 @@ public final class PromisesTest {
     fraction(x, 0, 1, 3, 5);
     x.setLeast(6);
     fraction(x, 0, 1, 3, 5);
-    fraction(highFork(), 0, 11, 13, 6);
+    fraction(Sample.highFork(), 0, 11, 13, 6);
     for (int bad : new int[] {-1, 3, MIN, MAX}) {
       Due.thrown("gain of measure " + bad, INDEX, () -> x.gain(bad, 0, 0));
       Due.thrown("gain of measure and at wrong", INDEX, () -> x.gain(bad, 51, 0));
@@ -640,7 +561,7 @@ public final class PromisesTest {
     x.setLeast(1);
     x.check(1, true);
     Due.is("best(0) of one sort", x.best(0), -1);
-    BeanGroves ends = along(new int[] {0, 50}, new int[] {2, 1});
+    BeanGroves ends = Sample.along(new int[] {0, 50}, new int[] {2, 1});
     Due.is("best(0) of 0 and 50", ends.best(0), 0);
     Due.is("best(1) of 0 and 50", ends.best(1), 0);
     for (int bad : new int[] {-1, 2, MIN, MAX}) {
@@ -649,7 +570,7 @@ public final class PromisesTest {
   }
 
   private static void would() {
-    BeanGroves x = ladder();
+    BeanGroves x = Sample.ladder();
     x.setLeast(2);
     x.plant(1, -1);
     long before = x.digest();
@@ -662,8 +583,8 @@ public final class PromisesTest {
     Due.is("would(5, 6, 1)", x.would(5, 6, 1), 4);
     Due.is("would(1, 1, 2) without checks", x.would(1, 1, 2), 0);
     Due.is("digest behind these", x.digest(), before);
-    addCheck(x, 2, 1);
-    addCheck(x, 9, 0);
+    Sample.addCheck(x, 2, 1);
+    Sample.addCheck(x, 9, 0);
     Due.is("would(1, 1, 2)", x.would(1, 1, 2), 1);
     Due.is("would(2, 1, 2)", x.would(2, 1, 2), 2);
     for (int bad : new int[] {0, 6, MIN, MAX}) {
@@ -682,7 +603,7 @@ public final class PromisesTest {
       Due.is("would(3, 1, what) without beans", new BeanGroves().would(3, 1, what), 0);
     }
     BeanGroves checks = new BeanGroves();
-    addCheck(checks, 0, 0);
+    Sample.addCheck(checks, 0, 0);
     for (int what = 0; what <= 2; what++) {
       Due.is("would(3, 1, what) with checks alone", checks.would(3, 1, what), 0);
     }
@@ -690,9 +611,9 @@ public final class PromisesTest {
 
   private static void advise() {
     Due.is("advise() without beans", new BeanGroves().advise(), -1);
-    BeanGroves x = highFork();
+    BeanGroves x = Sample.highFork();
     Due.is("advise() without checks", x.advise(), 1);
-    addCheck(x, 40, 2);
+    Sample.addCheck(x, 40, 2);
     long before = x.digest();
     Due.is("advise() where depth 2 is better than 1", x.advise(), 2);
     x.setDepth(1);
@@ -701,8 +622,8 @@ public final class PromisesTest {
     Due.is("digest behind these", x.digest(), before);
     x.setLeast(2);
     Due.is("advise() with the least number as it is", x.advise(), 1);
-    BeanGroves deep = ladder();
-    addCheck(deep, 4, 1);
+    BeanGroves deep = Sample.ladder();
+    Sample.addCheck(deep, 4, 1);
     Due.is("advise() where depth 4 is the first to be right", deep.advise(), 4);
     for (int bean = 0; bean < 7; bean++) {
       deep.check(bean, true);
@@ -711,7 +632,7 @@ public final class PromisesTest {
   }
 
   private static void mean() {
-    BeanGroves x = ladder();
+    BeanGroves x = Sample.ladder();
     Due.isTrue("mean() without trees is 0", x.mean() == 0.0);
     x.plant(1, -1);
     Due.isTrue("mean() of 7 is 7", x.mean() == 7.0);
@@ -740,7 +661,7 @@ public final class PromisesTest {
     Due.is("digest() of a new one", x.digest(), folded(1699, 0, 0, 0, 0, 0, 3, 1));
     x.bean(4, 5, 6, 1);
     x.bean(7, 8, 9, 2);
-    addCheck(x, 5, 2);
+    Sample.addCheck(x, 5, 2);
     x.plant(4, 3);
     long d = folded(1699, 3, 1, 1, 2, 1, 3, 1);
     d = folded(d, 4, 5, 6, 1, 0, 7, 8, 9, 2, 0, 5, 0, 0, 2, 1);
@@ -751,7 +672,7 @@ public final class PromisesTest {
 
   /** 512 calls on one object, the dearest ones, leave it as it was. */
   private static void manyCalls() {
-    BeanGroves x = full();
+    BeanGroves x = Sample.full();
     long before = x.digest();
     int advised = x.advise();
     for (int turn = 0; turn < 240; turn++) {
