@@ -8,6 +8,8 @@ import java.nio.file.Files;
 import java.nio.file.Path;
 import java.util.Set;
 import java.util.TreeSet;
+import java.util.regex.Matcher;
+import java.util.regex.Pattern;
 
 /** The face is the one that the document gives, and the source keeps out of what LANGUAGE.md rules out. */
 public final class FaceTest {
@@ -43,10 +45,25 @@ public final class FaceTest {
     "Exact", "System.", "Thread", "Object", "hashCode", "toString", "record ", "@SuppressWarnings",
   };
 
+  /** Beside its own classes: all that the class uses of the library, and the exceptions of the face. */
+  private static final Set<String> NAMES =
+      Set.of(
+          "BeanGroves", "Beans", "Tree", "Integer", "Math",
+          "IllegalArgumentException", "IndexOutOfBoundsException", "IllegalStateException");
+
+  private static final Set<String> LIBRARY = Set.of("Integer.bitCount", "Math.max");
+
+  private static final int MOST_LINES = 60;
+
   public static void main(String[] args) throws IOException {
     face();
     classes();
-    source();
+    String text = Files.readString(Path.of("src/main/java/BeanGroves.java"), StandardCharsets.UTF_8);
+    source(text);
+    String code = withoutComments(text);
+    names(code);
+    objects(code);
+    lengths(code);
     Due.end();
   }
 
@@ -110,6 +127,8 @@ public final class FaceTest {
       boolean isStatic = Modifier.isStatic(f.getModifiers());
       own += isStatic ? 0 : 1;
       Due.isTrue(f + " is final", !isStatic || Modifier.isFinal(f.getModifiers()));
+      Due.isTrue(f + " is a number, if it is static", !isStatic || f.getType().isPrimitive());
+      Due.isTrue(f + " is of an allowed type", isAllowed(f.getType()));
     }
     Due.isTrue(c + " has at most twenty fields", own <= 20);
     for (Method m : c.getDeclaredMethods()) {
@@ -117,9 +136,17 @@ public final class FaceTest {
     }
   }
 
-  private static void source() throws IOException {
-    Path file = Path.of("src/main/java/BeanGroves.java");
-    String text = Files.readString(file, StandardCharsets.UTF_8);
+  private static boolean isAllowed(Class<?> type) {
+    boolean isOwn = type.getNestHost() == BeanGroves.class;
+    if (!type.isArray()) {
+      return type.isPrimitive() || isOwn;
+    }
+    Class<?> part = type.getComponentType();
+    boolean isTable = part.isArray() && part.getComponentType().isPrimitive();
+    return part.isPrimitive() || isTable || part.getNestHost() == BeanGroves.class && !part.isArray();
+  }
+
+  private static void source(String text) {
     for (String word : RULED_OUT) {
       Due.isTrue("the source is without " + word, !text.contains(word));
     }
@@ -130,5 +157,70 @@ public final class FaceTest {
       Due.isTrue("the source says ---- " + head + " in its turn", next >= at);
       at = Math.max(at, next);
     }
+  }
+
+  private static String withoutComments(String text) {
+    return text.replaceAll("(?s)/\\*.*?\\*/", "").replaceAll("//[^\n]*", "");
+  }
+
+  private static void names(String code) {
+    String bare = code.replaceAll("\"[^\"\n]*\"", "\"\"");
+    Matcher name = Pattern.compile("\\b[A-Z]\\w*[a-z]\\w*").matcher(bare);
+    while (name.find()) {
+      Due.isTrue("the source may use " + name.group(), NAMES.contains(name.group()));
+    }
+    Matcher used = Pattern.compile("\\b(?:Integer|Math)\\.\\w+").matcher(bare);
+    while (used.find()) {
+      Due.isTrue("the source may use " + used.group(), LIBRARY.contains(used.group()));
+    }
+  }
+
+  /** Objects are made in fields and in the constructor alone, but for exceptions with a written text. */
+  private static void objects(String code) {
+    int trees = 0;
+    for (String line : code.split("\n")) {
+      if (line.contains("new ")) {
+        boolean isThrown = line.matches(" +throw new \\w+Exception\\(\"[^\"]+\"\\);");
+        boolean isField = line.matches(" +private final .* = new [^;]+;");
+        boolean isTree = line.equals("      trees[tree] = new Tree();");
+        Due.isTrue("no call makes an object: " + line, isThrown || isField || isTree);
+        trees += isTree ? 1 : 0;
+      }
+    }
+    Due.is("places where trees are made", trees, 1);
+  }
+
+  /** A method ends with the brace that stands below the first sign of its head. */
+  private static void lengths(String code) {
+    Pattern head = Pattern.compile("( {2,4})(?!if|for|switch|return|throw|while)\\w[^=;]*\\([^;]*");
+    String end = "";
+    int start = 0;
+    int methods = 0;
+    String[] lines = code.split("\n");
+    for (int at = 0; at < lines.length; at++) {
+      Matcher found = head.matcher(lines[at]);
+      if (end.isEmpty() && found.matches()) {
+        start = at;
+        end = found.group(1) + "}";
+      }
+      if (!end.isEmpty() && lines[at].equals(end)) {
+        Due.isTrue("not over sixty lines: " + lines[start], at - start < MOST_LINES);
+        methods++;
+        end = "";
+      }
+    }
+    int due = BeanGroves.class.getDeclaredConstructors().length + methodsOf(BeanGroves.class);
+    for (Class<?> c : BeanGroves.class.getDeclaredClasses()) {
+      due += methodsOf(c);
+    }
+    Due.is("methods whose lines are counted", methods, due);
+  }
+
+  private static int methodsOf(Class<?> c) {
+    int many = 0;
+    for (Method m : c.getDeclaredMethods()) {
+      many += m.isSynthetic() ? 0 : 1;
+    }
+    return many;
   }
 }
